@@ -73,6 +73,15 @@ public final class SeenTest {
         Check.due("ask: 0, 1 or 2", x.rang(1234567, 1), 2);
         x.see(2, false);
         Check.due("ask: 0 or 1", x.rang(1234567, 1), 3);
+        Check.due("ask: stop 0", x.rang(21, 1), 0);
+        // at haste 0 and 1 he comes to the last in HOUR 1, when she is out; at 2 and 3 in time
+        x = Check.street("v90 75 1;s43 0 0;s43 0 0;s43 0 0;s43 4095 9;s43 0 0;s43 0 0;s43 1 9;");
+        x.see(3, false);
+        Check.due("haste 0 or 2", x.rang(1234567, 0), 5);
+        Check.due("haste 0 or 2: ask the last", x.rang(1234567, 1), 6);
+        x.tear();
+        x.see(6, true);
+        Check.due("too late for the last", x.rang(1234567, 0), 3);
         // LEFT is no slip
         x = Check.street("v1 1 1;s1 4095 9;s2 4095 9;n1 0 1;");
         Check.due("left is no slip", x.rang(12, 1), Check.NONE);

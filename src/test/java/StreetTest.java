@@ -208,7 +208,8 @@ public final class StreetTest {
     private static void aStreetBeginsAnew() {
         WeWereIn x = Check.street(Check.FOUR);
         x.seed(5);
-        x.round(1234, 0);
+        x.round(2134, 3);
+        Check.due("anew: a slip ahead", x.told(7), 1);
         x.keep(0);
         x.keep(1);
         x.fetch(3);
@@ -276,6 +277,9 @@ public final class StreetTest {
         }
         Check.tell(x, V + "d1,2,3,4,5,6,7,8,9,0,1,2;");
         Check.due("din 11 of 12", x.din(11), 2);
+        Check.tell(x, V + "d7;");
+        Check.due("din 0 of one", x.din(0), 7);
+        Check.due("din 11 of one", x.din(11), 7);
         Check.tell(x, V);
         Check.due("din untold", x.din(3), 0);
     }

@@ -95,6 +95,14 @@ public final class TriedTest {
         Check.due("behind both", x.bath(1, 2, 42, 59), 61);
         x.round(1, 0);
         Check.due("passes by", x.bath(0, 1, 1, 1), 1);
+        // a ring takes a minute: he is at the fifth in minute 4 at haste 0, in minute 3 at haste 1
+        WeWereIn y = Check.street("v60 0 1;s0 4095 9;s0 4095 9;s0 4095 9;s0 4095 9;s0 4095 9;");
+        Check.due("at haste 0 by a", y.bath(4, 12345, 1, 4), 0);
+        Check.due("at haste 0 by b", y.bath(4, 1, 12345, 4), 0);
+        Check.due("at haste 0, five minutes", y.bath(4, 12345, 1, 5), 5);
+        y = Check.street("v1 59 1;s1 4095 9;s61 4095 9;");
+        Check.due("there at second 59", y.bath(0, 1, 1, 1), 1);
+        Check.due("there at second 3599", y.bath(1, 2, 1, 60), 60);
         Check.due("no stop", x.bath(5, 1, 1, 0), Check.UNKNOWN);
         for (int way : new int[] {0, -5, 6, 11, 1234567}) {
             Check.due("a is no way", x.bath(0, way, 1, 0), Check.UNKNOWN);
@@ -129,6 +137,8 @@ public final class TriedTest {
             Check.due("best way: what " + far, x.bestWay(0, far), Check.OUTSIDE);
         }
         Check.due("best way: what 3", x.bestWay(0, 3), Check.OUTSIDE);
+        x.order(3);
+        best(x, 0, 4, 1, 150);
         // who is in late is handed only if he comes late, though home is later by that
         x = Check.street("v1 60 1;s60 3 9;s30 2 9;");
         best(x, 0, 12, 2, 60 * 120 + 2);
