@@ -219,20 +219,24 @@ public final class DeedsTest {
         thirtyAreKept();
     }
 
-    private static void thirtyAreKept() {
+    private static WeWereIn drifted(int rounds) {
         WeWereIn x = Check.street(A);
-        String[] ahead = new String[47];
-        for (int i = 0; i < 47; i++) {
-            ahead[i] = Check.state(x);
+        for (int i = 0; i < rounds; i++) {
             x.drift(1);
         }
+        return x;
+    }
+
+    private static void thirtyAreKept() {
+        WeWereIn x = drifted(47);
+        String ahead = Check.state(drifted(17));
         Check.due("thirty", x.told(14), 30);
         Check.due("undo 30", x.undo(30), 17);
-        Check.due("undo 30: state", Check.state(x), ahead[17]);
+        Check.due("undo 30: state", Check.state(x), ahead);
         Check.due("undo 31st", x.undo(1), Check.NOT);
         x.drift(20);
         Check.due("undo 20", x.undo(20), 17);
-        Check.due("undo 20: state", Check.state(x), ahead[17]);
+        Check.due("undo 20: state", Check.state(x), ahead);
     }
 
     private static void fullOfRounds() {

@@ -5,8 +5,11 @@ import java.util.Random;
 
 /** All promises: random runs of calls, each answer against a slow model that is written another way. */
 public final class ModelTest {
-    private static final int RUNS = 1500;
-    private static final int CALLS = 260;
+    private static final int RUNS = 6000;
+    /** An object is used for so many calls; what later ones answer is free. */
+    private static final int CALLS = 512;
+    /** More than any one step of a run needs. */
+    private static final int STEP = 100;
 
     public static void main(String[] args) {
         for (int run = 0; run < RUNS; run++) {
@@ -53,6 +56,7 @@ public final class ModelTest {
     }
 
     private final int run;
+    private int calls = 0;
     private final Random random;
     private final WeWereIn x = new WeWereIn();
     private String text = "";
@@ -74,15 +78,19 @@ public final class ModelTest {
         this.random = new Random(run * 7919L + 5);
     }
 
+    /** Every call of the object stands in one of these. */
     private void due(String call, int got, int want) {
+        calls++;
         Check.due("run " + run + ": " + call, got, want);
     }
 
     private void play() {
-        for (int i = 0; i < CALLS; i++) {
-            if (i % 65 == 0) {
-                newStreet();
-            }
+        String text = randomText();
+        if (run % 2 == 0) {
+            readIfItFits(spoiled(text));
+        }
+        readIfItFits(text);
+        while (calls + STEP <= CALLS) {
             switch (random.nextInt(8)) {
                 case 0: ask(); break;
                 case 1: case 2: deed(); break;
@@ -90,9 +98,20 @@ public final class ModelTest {
                 case 4: watch(); break;
                 default: attempt(); break;
             }
-            if (random.nextInt(10) == 0) {
+            if (random.nextInt(25) == 0) {
                 everything();
             }
+            if (random.nextInt(100) == 0) {
+                String next = randomText();
+                readIfItFits(random.nextBoolean() ? next : spoiled(next));
+            }
+        }
+        Check.due("run " + run + ": 512 calls at most", calls <= CALLS, true);
+    }
+
+    private void readIfItFits(String text) {
+        if (calls + text.length() + 2 <= CALLS) {
+            read(text);
         }
     }
 
@@ -137,14 +156,6 @@ public final class ModelTest {
             }
         }
         return s.toString();
-    }
-
-    private void newStreet() {
-        String t = randomText();
-        for (int k = 0; k < 3; k++) {
-            read(spoiled(t));
-        }
-        read(t);
     }
 
     private void read(String t) {

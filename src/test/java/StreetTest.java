@@ -56,23 +56,17 @@ public final class StreetTest {
         Check.due("feed behind a fault", x.feed('v'), 1);
     }
 
-    private static void good(String text, int stops) {
-        WeWereIn x = new WeWereIn();
-        Check.due("street of '" + text + "'", Check.tell(x, text), stops);
-        Check.due("fault of '" + text + "'", x.fault(), Check.NONE);
-    }
-
     private static void goodTexts() {
-        good("v1 0 1;", 0);
-        good("v90 99 30;", 0);
-        good("v0090 0099 0030;", 0);
-        good("  v  1  0  1  ;  s  99  4095  9  ;  d  9  ,  0  ;  s0 0 0;n  0  1  9  ;  ", 2);
-        good(V + "d0;", 0);
-        good(V + "d1,2,3,4,5,6,7,8,9,0,1,2;", 0);
-        good(V + "s0 0 0;s0 0 0;s0 0 0;s0 0 0;s0 0 0;s0 0 0;s0 0 0;", 7);
-        good(TWO + "n0 1 1;n1 0 9;", 2);
-        good(TWO + "d1;s3 3 3;n2 0 4;", 3);
-        good(" ".repeat(233) + V, 0);
+        Check.good("v1 0 1;", 0);
+        Check.good("v90 99 30;", 0);
+        Check.good("v0090 0099 0030;", 0);
+        Check.good("  v  1  0  1  ;  s  99  4095  9  ;  d  9  ,  0  ;  s0 0 0;n  0  1  9  ;  ", 2);
+        Check.good(V + "d0;", 0);
+        Check.good(V + "d1,2,3,4,5,6,7,8,9,0,1,2;", 0);
+        Check.good(V + "s0 0 0;s0 0 0;s0 0 0;s0 0 0;s0 0 0;s0 0 0;s0 0 0;", 7);
+        Check.good(TWO + "n0 1 1;n1 0 9;", 2);
+        Check.good(TWO + "d1;s3 3 3;n2 0 4;", 3);
+        Check.good(" ".repeat(233) + V, 0);
     }
 
     private static void emptyTexts() {
@@ -90,96 +84,89 @@ public final class StreetTest {
         }
     }
 
-    private static void bad(String text, int number, int at) {
-        WeWereIn x = new WeWereIn();
-        Check.due("street of '" + text + "'", Check.tell(x, text), -10 - number);
-        Check.due("fault of '" + text + "'", x.fault(), at);
-        Check.due("letters behind '" + text + "'", x.told(4), 0);
-    }
-
     private static void faultsOfPlace() {
-        bad("x", 1, 0);
-        bad("  d1;", 1, 2);
-        bad("s0 0 0;" + V, 1, 0);
-        bad("n0 0 1;", 1, 0);
-        bad("7;", 1, 0);
-        bad(";", 1, 0);
-        bad("V1 0 1;", 1, 0);
-        bad("v", 1, 1);
-        bad("v ", 1, 2);
-        bad("v1", 1, 2);
-        bad("v1 0 1", 1, 6);
-        bad("v1 0 1  ", 1, 8);
-        bad("v1 0;", 1, 4);
-        bad("v1 01;", 1, 5);
-        bad("v1,0 1;", 1, 2);
-        bad("v1 0 1 2;", 1, 7);
-        bad("v-1 0 1;", 1, 1);
-        bad("v1\t0 1;", 1, 2);
-        bad("v1 0 v", 1, 5);
-        bad(V + ";", 1, 7);
-        bad(V + "x", 1, 7);
-        bad(V + "7", 1, 7);
-        bad(V + "12345", 1, 7);
-        bad(V + "d;", 1, 8);
-        bad(V + "d1,;", 1, 10);
-        bad(V + "d1 2;", 1, 10);
-        bad(V + "d1,2", 1, 11);
-        bad(V + "d1,2,", 1, 12);
-        bad(V + "d1,2,3,4,5,6,7,8,9,0,1,2,3;", 1, 31);
-        bad(V + "d1,2,3,4,5,6,7,8,9,0,1,2 , 99999;", 1, 32);
-        bad(V + "s1 1;", 1, 11);
-        bad(V + "s1 1 1 1;", 1, 14);
-        bad(TWO + "n0 1;", 1, 25);
-        bad(TWO + "n;", 1, 22);
-        bad(TWO + "n0 1 1", 1, 27);
-        bad(" ".repeat(234) + V.substring(0, 6), 1, 240);
+        Check.bad("x", 1, 0);
+        Check.bad("  d1;", 1, 2);
+        Check.bad("s0 0 0;" + V, 1, 0);
+        Check.bad("n0 0 1;", 1, 0);
+        Check.bad("7;", 1, 0);
+        Check.bad(";", 1, 0);
+        Check.bad("V1 0 1;", 1, 0);
+        Check.bad("v", 1, 1);
+        Check.bad("v ", 1, 2);
+        Check.bad("v1", 1, 2);
+        Check.bad("v1 0 1", 1, 6);
+        Check.bad("v1 0 1  ", 1, 8);
+        Check.bad("v1 0;", 1, 4);
+        Check.bad("v1 01;", 1, 5);
+        Check.bad("v1,0 1;", 1, 2);
+        Check.bad("v1 0 1 2;", 1, 7);
+        Check.bad("v-1 0 1;", 1, 1);
+        Check.bad("v1\t0 1;", 1, 2);
+        Check.bad("v1 0 v", 1, 5);
+        Check.bad(V + ";", 1, 7);
+        Check.bad(V + "x", 1, 7);
+        Check.bad(V + "7", 1, 7);
+        Check.bad(V + "12345", 1, 7);
+        Check.bad(V + "d;", 1, 8);
+        Check.bad(V + "d1,;", 1, 10);
+        Check.bad(V + "d1 2;", 1, 10);
+        Check.bad(V + "d1,2", 1, 11);
+        Check.bad(V + "d1,2,", 1, 12);
+        Check.bad(V + "d1,2,3,4,5,6,7,8,9,0,1,2,3;", 1, 31);
+        Check.bad(V + "d1,2,3,4,5,6,7,8,9,0,1,2 , 99999;", 1, 32);
+        Check.bad(V + "s1 1;", 1, 11);
+        Check.bad(V + "s1 1 1 1;", 1, 14);
+        Check.bad(TWO + "n0 1;", 1, 25);
+        Check.bad(TWO + "n;", 1, 22);
+        Check.bad(TWO + "n0 1 1", 1, 27);
+        Check.bad(" ".repeat(234) + V.substring(0, 6), 1, 240);
     }
 
     private static void faultsOfNumbers() {
-        bad("v0 0 1;", 2, 1);
-        bad("v91 0 1;", 2, 1);
-        bad("v 91 0 1;", 2, 2);
-        bad("v1 100 1;", 2, 3);
-        bad("v1 0 0;", 2, 5);
-        bad("v1 0 31;", 2, 5);
-        bad("v00001 0 1;", 2, 1);
-        bad("v99999999999999999999 0 1;", 2, 1);
-        bad("v1 4294967296 1;", 2, 3);
-        bad("v12345x", 2, 1);
-        bad("v91", 2, 1);
-        bad(V + "s100 0 0;", 2, 8);
-        bad(V + "s0 4096 0;", 2, 10);
-        bad(V + "s0 0 10;", 2, 12);
-        bad(V + "d10;", 2, 8);
-        bad(V + "d1,10;", 2, 10);
-        bad(V + "d00000;", 2, 8);
-        bad(V + "n0 0 1;", 2, 8);
-        bad(TWO + "n2 0 1;", 2, 22);
-        bad(TWO + "n2 2 1;", 2, 22);
-        bad(TWO + "n0 2 1;s3 3 3;", 2, 24);
-        bad(TWO + "n0 1 0;", 2, 26);
-        bad(TWO + "n0 1 10;", 2, 26);
-        bad(TWO + "n00001 0 1;", 2, 22);
+        Check.bad("v0 0 1;", 2, 1);
+        Check.bad("v91 0 1;", 2, 1);
+        Check.bad("v 91 0 1;", 2, 2);
+        Check.bad("v1 100 1;", 2, 3);
+        Check.bad("v1 0 0;", 2, 5);
+        Check.bad("v1 0 31;", 2, 5);
+        Check.bad("v00001 0 1;", 2, 1);
+        Check.bad("v99999999999999999999 0 1;", 2, 1);
+        Check.bad("v1 4294967296 1;", 2, 3);
+        Check.bad("v12345x", 2, 1);
+        Check.bad("v91", 2, 1);
+        Check.bad(V + "s100 0 0;", 2, 8);
+        Check.bad(V + "s0 4096 0;", 2, 10);
+        Check.bad(V + "s0 0 10;", 2, 12);
+        Check.bad(V + "d10;", 2, 8);
+        Check.bad(V + "d1,10;", 2, 10);
+        Check.bad(V + "d00000;", 2, 8);
+        Check.bad(V + "n0 0 1;", 2, 8);
+        Check.bad(TWO + "n2 0 1;", 2, 22);
+        Check.bad(TWO + "n2 2 1;", 2, 22);
+        Check.bad(TWO + "n0 2 1;s3 3 3;", 2, 24);
+        Check.bad(TWO + "n0 1 0;", 2, 26);
+        Check.bad(TWO + "n0 1 10;", 2, 26);
+        Check.bad(TWO + "n00001 0 1;", 2, 22);
     }
 
     private static void faultsOfNumber3() {
-        bad(V + V, 3, 7);
-        bad(V + " v", 3, 8);
-        bad(V + "vx", 3, 7);
-        bad(V + "d1;d", 3, 10);
-        bad(V + "d1;s1 1 1; d2;", 3, 18);
-        bad(V + "s0 0 0;".repeat(7) + "s0 0 0;", 3, 56);
-        bad(V + "s0 0 0;".repeat(7) + "s", 3, 56);
+        Check.bad(V + V, 3, 7);
+        Check.bad(V + " v", 3, 8);
+        Check.bad(V + "vx", 3, 7);
+        Check.bad(V + "d1;d", 3, 10);
+        Check.bad(V + "d1;s1 1 1; d2;", 3, 18);
+        Check.bad(V + "s0 0 0;".repeat(7) + "s0 0 0;", 3, 56);
+        Check.bad(V + "s0 0 0;".repeat(7) + "s", 3, 56);
     }
 
     private static void faultsOfNeighbours() {
-        bad(TWO + "n0 0 1;", 4, 24);
-        bad(TWO + "n1 01 1;", 4, 24);
-        bad(TWO + "n0 1 1;n0 1 1;", 4, 29);
-        bad(TWO + "n0 1 1;n0 0 1;", 4, 29);
-        bad(TWO + "n0 1 1;n 0 9 1;", 4, 30);
-        bad(TWO + "n0 1 1;n0x", 4, 29);
+        Check.bad(TWO + "n0 0 1;", 4, 24);
+        Check.bad(TWO + "n1 01 1;", 4, 24);
+        Check.bad(TWO + "n0 1 1;n0 1 1;", 4, 29);
+        Check.bad(TWO + "n0 1 1;n0 0 1;", 4, 29);
+        Check.bad(TWO + "n0 1 1;n 0 9 1;", 4, 30);
+        Check.bad(TWO + "n0 1 1;n0x", 4, 29);
     }
 
     private static void aFaultChangesNothing() {

@@ -152,18 +152,27 @@ public final class TriedTest {
             A, Check.FOUR, "v90 99 30;s99 4095 9;s0 3 9;s99 77 9;s50 4000 9;s20 255 7;d0,1,2,3,4,5,6,7,8;n0 1 9;n1 0 9;n2 1 1;",
             "v20 30 10;s80 6 9;s10 1 9;s40 5 2;s99 4 9;s3 9 4;d1,4;n3 4 2;", "v5 0 5;s1 1 1;s1 1 0;s1 0 1;s1 1 1;n0 1 1;"};
         for (String text : texts) {
-            WeWereIn x = Check.street(text);
-            for (int i = 0; i < 6; i++) {
+            for (int drifts = 0; drifts < 6; drifts++) {
                 for (int h = 0; h < 4; h++) {
-                    againstAll(x, h);
+                    againstAll(text, drifts, h);
                 }
-                x.drift(1);
             }
         }
     }
 
-    private static void againstAll(WeWereIn x, int h) {
+    private static WeWereIn drifted(String text, int drifts) {
+        WeWereIn x = Check.street(text);
+        if (drifts > 0) {
+            x.drift(drifts);
+        }
+        return x;
+    }
+
+    /** A new object for each way: no object is asked more than 512 times. */
+    private static void againstAll(String text, int drifts, int h) {
+        WeWereIn x = drifted(text, drifts);
         int counts = x.told(8) | x.told(11);
+        int handedAhead = Integer.bitCount(x.told(9));
         int way = Check.NONE;
         int handed = Check.NONE;
         int home = Check.NONE;
@@ -175,11 +184,13 @@ public final class TriedTest {
             if (set != counts || Integer.toString(w).length() != Integer.bitCount(counts)) {
                 continue;
             }
-            int got = twos(x.outcome(w, h)) - Integer.bitCount(x.told(9));
-            if (got > handed || got == handed && x.home(w, h) < home) {
+            WeWereIn y = drifted(text, drifts);
+            int got = twos(y.outcome(w, h)) - handedAhead;
+            int back = y.home(w, h);
+            if (got > handed || got == handed && back < home) {
                 way = w;
                 handed = got;
-                home = x.home(w, h);
+                home = back;
             }
         }
         best(x, h, way, handed, home);
