@@ -413,12 +413,19 @@ public final class RoundBoundsTest {
     }
 
     private static void draws() {
-        Check.says("it becomes it times 1103515245 and 12345, left over by 2 to the 31; the DRAW of n is it / 65536, left over by n");
+        Check.says("it becomes it times 1103515245 and 12345, left over by 2 to the 31; the DRAW of n is it / 65536, left over by n",
+            "if it was HANDED, it is ORDERED; a DRAW of 4 is HASTE; the WAY is all STOPS, rising");
+        String[] each = {"s1 1 9;", "s2 0 9;", "s3 1 4;", "s4 1 0;", "s5 4095 9;", "s6 1 9;", "s7 1 9;"};
+        StringBuilder text = new StringBuilder("v3 1 2;");
         int[] seeds = {0, 1, 65535, 65536, 1073741823, 1073741824, 2147483646, Integer.MAX_VALUE};
         for (int stops = 1; stops <= 7; stops++) {
-            String text = "v3 1 2;" + "s1 1 9;s2 0 9;s3 1 4;s4 1 0;s5 4095 9;s6 1 9;s7 1 9;".substring(0, stops == 5 ? 38 : stops > 5 ? stops * 7 + 3 : stops * 7);
+            text.append(each[stops - 1]);
             for (int seed : seeds) {
-                drawn(text, stops, seed);
+                drawn(text.toString(), stops, seed);
+                if (stops > 3) {
+                    // who is left with a neighbour was not handed it: a draw of him orders nothing
+                    drawn(text + "n1 0 9;n3 0 2;", stops, seed);
+                }
             }
         }
     }

@@ -270,6 +270,15 @@ public final class TriedBoundsTest {
         WeWereIn x = Check.street("v1 20 1;s30 2 9;s99 4095 9;s0 4095 9;");
         best("a later home", x, 0, 231, 3, 20 * 258 + 3);
         Check.due("a later home: sooner by another", x.home(123, 0), 20 * 198 + 4);
+        // stop 0 is never in: best he comes to her where he does not ring
+        String four = "v9 0 1;s0 0 0;s0 1 9;s0 1 9;s0 1 9;";
+        best("in haste", Check.street(four), 0, 1234, 3, 37);
+        best("in haste", Check.street(four), 1, 2341, 3, 28);
+        best("in haste", Check.street(four), 2, 2314, 3, 28);
+        best("in haste", Check.street(four), 3, 2134, 2, 20);
+        for (int h = 0; h <= 3; h++) {
+            best("seven", Check.street(SEVEN), h, 1234567, 7 - h, 49 - 2 * h);
+        }
         best("at haste 3 the second is not rung at", Check.street("v9 1 1;s1 1 9;s2 0 0;s3 1 9;"), 3, 123, 2, 6 + 9 + 1 + 9);
         best("home soonest", Check.street("v1 1 1;s50 0 0;s10 0 0;s60 0 0;s5 0 0;"), 0, 1324, 0, 120 + 8);
     }
@@ -383,6 +392,8 @@ public final class TriedBoundsTest {
         for (int d : new int[] {0, 1, 50, 99}) {
             locker("no slip at all", x, 123, d, 0, 0);
         }
+        WeWereIn seven = Check.street(SEVEN);
+        locker("at haste 0 he rings at all seven", seven, 1234567, 99, 0, 0);
         x.round(123, 3);
         Check.due("at the depot by haste", x.stop(1, 3), 4);
         locker("at haste 0 she is handed it", x, 123, 99, 0, 0);
