@@ -366,6 +366,7 @@ public final class RoundBoundsTest {
         x.round(12, 0);
         Check.due("for 0", x.thank(0), 1);
         Check.due("for 0 again", x.thank(0), 0);
+        Check.due("for 0 again: a deed all the same", x.told(14), 3);
         Check.due("for 1 still", x.stop(1, 6), 1);
         Check.due("for 1", x.thank(1), 1);
         Check.due("the parcels stay there", x.told(10), 3);
