@@ -1,3 +1,6 @@
+import java.io.IOException;
+import java.nio.file.Files;
+import java.nio.file.Path;
 import java.util.Objects;
 import java.util.function.Supplier;
 import java.util.function.ToIntFunction;
@@ -17,13 +20,28 @@ final class Check {
     private static int right = 0;
     private static int wrong = 0;
     private static String sentence = "";
+    private static String document = null;
 
     private Check() {
     }
 
-    /** The document's own words, which the answers from here on are about. */
+    /** The document's own words, which the answers from here on are about; they must stand in it just so. */
     static void says(String... words) {
         sentence = "'" + String.join("', '", words) + "': ";
+        for (String part : words) {
+            due("whether the document says so", theDocument().contains(part), true);
+        }
+    }
+
+    private static String theDocument() {
+        if (document == null) {
+            try {
+                document = Files.readString(Path.of("../shared/DOC.md"));
+            } catch (IOException e) {
+                document = "";
+            }
+        }
+        return document;
     }
 
     static void due(String what, Object got, Object want) {

@@ -34,6 +34,7 @@ public final class TextBoundsTest {
         theLeastOfSeveral();
         theFirstOfSeveral();
         emptyText();
+        blanksAlone();
         aFaultChangesNothing();
         streetBeginsAnew();
         latestFault();
@@ -500,6 +501,24 @@ public final class TextBoundsTest {
         Check.due("behind a street: undo", x.undo(1), Check.NOT);
         Check.due("behind a street: best way", x.bestWay(0, 0), Check.NONE);
         Check.due("behind a street: the seed stays", x.seed(0), 99);
+    }
+
+    /** Blanks may stand in an empty text too: it tells as little as one without any. */
+    private static void blanksAlone() {
+        Check.says("blanks (32) may stand anywhere but within NUMBERS", "An empty text: no STREET");
+        for (int blanks : new int[] {1, 2, 239, 240}) {
+            Check.good(" ".repeat(blanks), 0);
+            WeWereIn x = Check.street("v30 60 10;s10 4095 5;");
+            x.round(1, 0);
+            x.seed(99);
+            Check.due(blanks + " blanks behind a street", Check.tell(x, " ".repeat(blanks)), 0);
+            Check.due(blanks + " blanks: everything", Check.everything(x), Check.everything(new WeWereIn()));
+            Check.due(blanks + " blanks: undo", x.undo(1), Check.NOT);
+            Check.due(blanks + " blanks: the seed stays", x.seed(0), 99);
+        }
+        Check.bad(" ".repeat(239) + "v", 1, 240);
+        Check.bad(" ".repeat(239) + ";", 1, 239);
+        Check.bad("  s0 0 0;", 1, 2);
     }
 
     /** A street that waits, was handed, is left, lies at the depot; deeds, images, a book, and a faulty text in hand. */
